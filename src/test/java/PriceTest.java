@@ -154,6 +154,12 @@ public final class PriceTest {
         Checks.read(x, "R 0 0 100000 1000000\nR 0 0 99999 1\n");
         Checks.read(x, "R 0 0 33332 0\nR 0 0 33334 1000000\n");
         t.due("the dearest parcels", x.parcels(6, 0), 2000000);
+        RateBreaks fewer = Checks.withRates("R 0 0 1 5\nR 0 0 9 1\n");
+        Checks.read(fewer, "");
+        Checks.read(fewer, "R 0 0 1 5\n");
+        fewer.shipment(0, 5, 0);
+        t.due("steps of earlier rates are gone for parcels", fewer.parcels(0, 0), -1);
+        t.due("and for the price", fewer.price(0, 0), -1);
     }
 
     /** Every parting of small weights is tried gram by gram. */
