@@ -151,7 +151,6 @@ public final class PriceTest {
         t.due("no steps", x.parcels(0, 4), -1);
         x.book(3, 2);
         t.due("of a booked shipment too", x.parcels(3, 2), 10);
-        Checks.read(x, "R 0 0 100000 1000000\nR 0 0 99999 1\n");
         Checks.read(x, "R 0 0 33332 0\nR 0 0 33334 1000000\n");
         t.due("the dearest parcels", x.parcels(6, 0), 2000000);
         RateBreaks fewer = Checks.withRates("R 0 0 1 5\nR 0 0 9 1\n");
