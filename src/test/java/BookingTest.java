@@ -1,146 +1,322 @@
-import java.util.NoSuchElementException;
+import java.util.Arrays;
 
-/** Promises 9 to 11: contract, book, combine. */
+/** Promises 9 to 11 and the contracts of "Terms": contract, book, combine. */
 public final class BookingTest {
     private static final Checks t = new Checks();
 
     public static void main(String[] args) {
-        contracts();
-        contractsByBookings();
-        bookings();
-        combining();
-        refusedCombining();
+        rangesOfContracts();
+        toldAnewInstead();
+        fourContracts();
+        fromSoManyBookedOn();
+        theGreatestNumberReached();
+        countsOfEachService();
+        bookedAtThePriceNow();
+        bookedOrNoStep();
+        bookedByDivisorZero();
+        noSuchShipmentOrServiceToBook();
+        everyShipmentBooked();
+        combined();
+        theSecondIsGone();
+        asMuchAsAShipmentMayHave();
+        refusedToCombine();
+        noSuchShipmentToCombine();
         t.finish();
     }
 
-    private static void contracts() {
-        RateBreaks x = new RateBreaks();
+    private static void rangesOfContracts() {
+        t.sentence("from so many booked shipments on (0 .. 100) up (0 .. down) by down (1 .. 1000)");
+        Run x = new Run();
+        int[][] right = {{0, 0, 0, 1}, {9, 100, 1000, 1000}, {1, 1, 1, 1}, {2, 99, 999, 1000}, {3, 0, 0, 1000}};
+        for (int[] w : right) {
+            t.due("contract " + Arrays.toString(w), x.contract(w[0], w[1], w[2], w[3]), 1);
+        }
         int[][] wrong = {
-            {-1, 0, 0, 1}, {10, 0, 0, 1}, {0, -1, 0, 1}, {0, 101, 0, 1}, {0, 0, -1, 1}, {0, 0, 2, 1}, {0, 0, 0, 0},
-            {0, 0, 0, -1}, {0, 0, -2, -1}, {0, 0, 0, 1001}, {0, 0, 1001, 1001}, {0, 0, 1001, 1000},
-            {Integer.MIN_VALUE, 0, 0, 1}, {0, Integer.MAX_VALUE, 0, 1},
+            {-1, 0, 0, 1}, {10, 0, 0, 1}, {Integer.MIN_VALUE, 0, 0, 1}, {Integer.MAX_VALUE, 0, 0, 1},
+            {0, -1, 0, 1}, {0, 101, 0, 1}, {0, Integer.MIN_VALUE, 0, 1}, {0, Integer.MAX_VALUE, 0, 1},
+            {0, 0, -1, 1}, {0, 0, 2, 1}, {0, 0, 1000, 999}, {0, 0, Integer.MIN_VALUE, 1}, {0, 0, Integer.MAX_VALUE, 1},
+            {0, 0, 0, 0}, {0, 0, 1, 0}, {0, 0, 0, -1}, {0, 0, -1, -1}, {0, 0, -2, -1}, {0, 0, 0, 1001},
+            {0, 0, 1001, 1001}, {0, 0, 1001, 1000}, {0, 0, 0, Integer.MIN_VALUE}, {0, 0, 0, Integer.MAX_VALUE},
         };
         for (int[] w : wrong) {
-            t.refused("contract " + java.util.Arrays.toString(w), IllegalArgumentException.class,
-                () -> x.contract(w[0], w[1], w[2], w[3]));
+            t.refused("outside", Checks.ARGUMENT, x, "contract", w);
         }
-        t.due("contract 1", x.contract(9, 100, 1000, 1000), 1);
-        t.due("contract 2", x.contract(9, 0, 0, 1), 2);
-        t.due("the same number again", x.contract(9, 100, 1, 2), 2);
-        t.due("contract 3", x.contract(9, 50, 1, 2), 3);
-        t.due("contract 4", x.contract(9, 49, 1, 2), 4);
-        t.refused("a fifth number", UnsupportedOperationException.class, () -> x.contract(9, 48, 1, 2));
-        t.refused("a wrong fifth number", IllegalArgumentException.class, () -> x.contract(9, 48, 3, 2));
-        t.due("one of the four again", x.contract(9, 49, 1, 3), 4);
-        t.due("another service has its own", x.contract(8, 48, 1, 3), 1);
     }
 
-    private static void contractsByBookings() {
-        RateBreaks x = Checks.withRates("R 1 0 9 100\nR 2 0 9 100\n");
-        for (int n = 0; n < 6; n++) {
-            x.shipment(0, 1, 0);
-        }
-        x.contract(1, 3, 1, 3);
-        x.contract(1, 1, 1, 2);
-        x.contract(1, 100, 0, 1);
-        t.due("none is reached", x.price(0, 1), 100);
-        t.due("booked at the price before it counts", x.book(0, 1), 100);
-        t.due("from one on", x.book(1, 1), 50);
-        t.due("another service's count", x.price(2, 2), 100);
-        t.due("still the first", x.book(2, 1), 50);
-        t.due("from three on, rounded up", x.price(3, 1), 34);
-        t.due("told anew", x.contract(1, 3, 99, 100), 3);
-        t.due("the new one instead", x.price(3, 1), 99);
-        t.due("a contract from 2", x.contract(1, 2, 0, 5), 4);
-        t.due("the greatest number reached, not the best price", x.price(3, 1), 99);
-        t.due("rates come anew", Checks.read(x, "R 1 0 9 200\n"), 1);
-        t.due("the contracts and what was booked stay", x.price(3, 1), 198);
-        x.contract(2, 0, 0, 1);
-        t.due("no step stays no step", x.price(3, 2), -1);
+    private static void toldAnewInstead() {
+        t.sentence("A contract of a service (told anew for the same number: instead)");
+        Run x = Run.withRates("R 9 0 9 100\n");
+        x.shipment(0, 1, 0);
+        t.due("one", x.contract(9, 0, 1, 2), 1);
+        t.due("by it", x.price(0, 9), 50);
+        t.due("still one", x.contract(9, 0, 1, 4), 1);
+        t.due("by the new one", x.price(0, 9), 25);
+        t.refused("a wrong one", Checks.ARGUMENT, x, "contract", 9, 0, 5, 4);
+        t.due("two", x.contract(9, 1, 1, 5), 2);
+        t.due("the first again", x.contract(9, 0, 3, 4), 2);
+        t.due("by it", x.book(0, 9), 75);
+        t.due("and the second from one on", x.price(0, 9), 20);
     }
 
-    private static void bookings() {
-        RateBreaks x = Checks.withRates("R 1 0 9 100\nR 2 0 9 50\nD 3 0\nR 3 0 9 1\nD 4 0\n");
+    private static void fourContracts() {
+        t.sentence("UnsupportedOperationException: it has four others");
+        Run x = Run.withRates("R 9 0 9 100\n");
+        x.shipment(0, 1, 0);
+        int[] froms = {100, 0, 50, 49};
+        for (int n = 0; n < 4; n++) {
+            t.due("contract " + (n + 1), x.contract(9, froms[n], 1, 2), n + 1);
+        }
+        for (int from : new int[] {1, 48, 51, 99}) {
+            t.refused("a fifth number", Checks.ROOM, x, "contract", 9, from, 1, 3);
+        }
+        t.refused("a fifth number that may not be", Checks.ARGUMENT, x, "contract", 9, 101, 1, 3);
+        t.refused("a fifth number, below 0", Checks.ARGUMENT, x, "contract", 9, -1, 1, 3);
+        t.refused("a fifth number, up above down", Checks.ARGUMENT, x, "contract", 9, 1, 4, 3);
+        t.refused("a fifth number, up below 0", Checks.ARGUMENT, x, "contract", 9, 1, -1, 3);
+        t.refused("a fifth number, down 0", Checks.ARGUMENT, x, "contract", 9, 1, 0, 0);
+        t.refused("a fifth number, down too great", Checks.ARGUMENT, x, "contract", 9, 1, 0, 1001);
+        for (int from : froms) {
+            t.due("one of the four anew", x.contract(9, from, 1, 5), 4);
+        }
+        t.due("by it", x.price(0, 9), 20);
+        t.due("another service has room of its own", x.contract(8, 1, 1, 3), 1);
+        t.due("the first service too", x.contract(0, 1, 1, 3), 1);
+    }
+
+    private static void fromSoManyBookedOn() {
+        t.sentence("a CONTRACT of the service whose number is no greater than that of shipments booked by it so far");
+        for (int from = 0; from <= 20; from++) {
+            Run x = Run.withRates("R 1 0 9 100\n");
+            x.shipments(20, 0, 1, 0);
+            x.contract(1, from, 1, 2);
+            for (int n = 0; n < 20; n++) {
+                t.due("from " + from + ", booked " + n, x.book(n, 1), n < from ? 100 : 50);
+            }
+            t.due("from " + from + ", booked 20", x.price(0, 1), 50);
+        }
+        Run never = Run.withRates("R 1 0 9 100\n");
+        never.shipments(20, 0, 1, 0);
+        never.contract(1, 21, 1, 2);
+        never.contract(1, 100, 1, 4);
+        for (int n = 0; n < 20; n++) {
+            t.due("a number that is not reached", never.book(n, 1), 100);
+        }
+        t.due("a number that is not reached", never.price(0, 1), 100);
+    }
+
+    private static void theGreatestNumberReached() {
+        t.sentence("of these the greatest number");
+        int[][] orders = {{0, 2, 3}, {3, 2, 0}, {2, 0, 3}};
+        for (int[] order : orders) {
+            Run x = Run.withRates("R 1 0 9 100\n");
+            x.shipments(6, 0, 1, 0);
+            for (int from : order) {
+                x.contract(1, from, 10 - from, 10);
+            }
+            x.contract(1, 4, 99, 100);
+            int[] due = {100, 100, 80, 70, 99, 99};
+            for (int n = 0; n < 6; n++) {
+                t.due("booked " + n + ", told in the order " + Arrays.toString(order), x.book(n, 1), due[n]);
+            }
+        }
+    }
+
+    private static void countsOfEachService() {
+        t.sentence("that of shipments booked by it so far");
+        Run x = Run.withRates("R 0 0 9 100\nR 9 0 9 100\n");
+        x.shipments(5, 0, 1, 0);
+        x.contract(0, 1, 1, 2);
+        x.contract(9, 2, 1, 4);
+        t.due("service 9, none booked", x.book(0, 9), 100);
+        t.due("service 0, none booked", x.price(1, 0), 100);
+        t.due("service 0 books", x.book(1, 0), 100);
+        t.due("service 9, one booked", x.price(2, 9), 100);
+        t.due("service 0, one booked", x.price(2, 0), 50);
+        t.refused("a refused booking does not count", Checks.STATE, x, "book", 0, 9);
+        t.due("service 9 books", x.book(2, 9), 100);
+        t.due("service 9, two booked", x.price(3, 9), 25);
+        x.invoice(0, 5);
+        x.refund(0, 5);
+        t.due("invoices and refunds do not count", x.price(3, 0), 50);
+        t.due("rates anew", x.readText("R 9 0 9 200\n"), 1);
+        t.due("what was booked and the contracts stay", x.price(3, 9), 50);
+    }
+
+    private static void bookedAtThePriceNow() {
+        t.sentence("A shipment is booked by a service at its price now: that");
+        Run x = Run.withRates("R 0 0 9 0\nR 9 0 9 90\nF 9 1 2\nM 9 140\nD 9 2\n");
+        x.shipment(0, 9, 18);
         x.shipment(0, 9, 0);
+        x.contract(9, 0, 1, 2);
+        t.due("not booked", x.told(0, 3), -1);
+        t.due("no price", x.told(0, 4), -1);
+        t.due("with fuel, minimum and contract", x.book(0, 9), 70);
+        t.due("its service", x.told(0, 3), 9);
+        t.due("its price", x.told(0, 4), 70);
+        t.due("by the first service for nothing", x.book(1, 0), 0);
+        t.due("its service", x.told(1, 3), 0);
+        t.due("its price", x.told(1, 4), 0);
+        t.due("both are booked", x.count(3), 2);
+        x.readText("R 9 0 9 1\n");
+        t.due("the price at which it was booked stays", x.told(0, 4), 70);
+        t.due("the price now is another", x.price(0, 9), 1);
+    }
+
+    private static void bookedOrNoStep() {
+        t.sentence("IllegalStateException: it is booked, or there is no step for it");
+        Run x = Run.withRates("R 0 0 9 5\nR 1 0 9 0\nD 1 1\n");
+        x.shipment(0, 9, 10);
         x.shipment(0, 10, 0);
         x.shipment(1, 1, 0);
-        t.refused("book no shipment", NoSuchElementException.class, () -> x.book(3, 10));
-        t.refused("book -1", NoSuchElementException.class, () -> x.book(-1, 1));
-        t.refused("book by 10", IllegalArgumentException.class, () -> x.book(0, 10));
-        t.refused("book by -1", IllegalArgumentException.class, () -> x.book(0, -1));
-        t.refused("too heavy", IllegalStateException.class, () -> x.book(1, 1));
-        t.refused("no step of its zone", IllegalStateException.class, () -> x.book(2, 1));
-        t.refused("divisor 0", ArithmeticException.class, () -> x.book(0, 3));
-        t.refused("divisor 0 without a step", ArithmeticException.class, () -> x.book(0, 4));
-        t.due("none is booked", x.count(3), 0);
-        t.due("its service", x.told(0, 3), -1);
-        t.due("its price", x.told(0, 4), -1);
-        t.due("booked", x.book(0, 1), 100);
-        t.due("its service", x.told(0, 3), 1);
-        t.due("its price", x.told(0, 4), 100);
-        t.refused("booked by the same", IllegalStateException.class, () -> x.book(0, 1));
-        t.refused("booked by another", IllegalStateException.class, () -> x.book(0, 2));
-        t.refused("booked, by one of divisor 0", IllegalStateException.class, () -> x.book(0, 3));
-        t.refused("booked, by none", IllegalArgumentException.class, () -> x.book(0, 10));
-        Checks.read(x, "R 1 0 9 77\n");
-        t.due("the price at which it was booked stays", x.told(0, 4), 100);
-        t.due("the price now is another", x.price(0, 1), 77);
-        x.contract(1, 1, 1, 7);
-        t.due("refused bookings do not count", x.price(0, 1), 11);
-        Checks.read(x, "R 0 0 10 0\n");
-        t.due("booked for nothing", x.book(1, 0), 0);
-        t.due("by service 0", x.told(1, 3), 0);
-        t.due("at 0", x.told(1, 4), 0);
-        t.due("two are booked", x.count(3), 2);
+        x.shipment(0, 9, 9);
+        x.contract(0, 1, 1, 5);
+        t.refused("too heavy by one", Checks.STATE, x, "book", 1, 0);
+        t.refused("too great a volume by one", Checks.STATE, x, "book", 0, 1);
+        t.refused("no step of its zone", Checks.STATE, x, "book", 2, 0);
+        t.refused("no step of the service", Checks.STATE, x, "book", 0, 9);
+        t.due("booked for nothing", x.book(3, 1), 0);
+        t.refused("booked for nothing", Checks.STATE, x, "book", 3, 1);
+        t.due("booked by service 0", x.book(0, 0), 5);
+        t.refused("booked by the same", Checks.STATE, x, "book", 0, 0);
+        t.refused("booked by another", Checks.STATE, x, "book", 3, 0);
+        t.refused("booked, and no step", Checks.STATE, x, "book", 0, 1);
+        t.refused("booked, and no line", Checks.STATE, x, "book", 0, 9);
+        x.invoice(0, 5);
+        t.refused("invoiced", Checks.STATE, x, "book", 0, 0);
     }
 
-    private static void combining() {
-        RateBreaks x = Checks.withRates("R 1 3 100 5\n");
-        x.shipment(3, 40, 7);
-        x.shipment(3, 2, 8);
-        x.shipment(3, 100, 9);
-        t.due("the second into the first", x.combine(1, 0), 42);
-        t.due("grams", x.told(1, 1), 42);
-        t.due("volume", x.told(1, 2), 15);
-        t.due("zone", x.told(1, 0), 3);
-        t.due("two are left", x.count(2), 2);
-        t.refused("the other is gone", NoSuchElementException.class, () -> x.told(0, 0));
-        t.refused("gone for combine, first", NoSuchElementException.class, () -> x.combine(0, 1));
-        t.refused("gone for combine, second", NoSuchElementException.class, () -> x.combine(1, 0));
-        t.refused("gone for combine, both", NoSuchElementException.class, () -> x.combine(0, 0));
-        t.refused("gone for book", NoSuchElementException.class, () -> x.book(0, 10));
-        t.refused("gone for invoice", NoSuchElementException.class, () -> x.invoice(0, -1));
-        t.refused("gone for refund", NoSuchElementException.class, () -> x.refund(0, -1));
-        t.due("again", x.combine(1, 2), 142);
-        t.due("the next number", x.shipment(3, 1, 0), 3);
-        t.due("too heavy now", x.price(1, 1), -1);
-        RateBreaks full = new RateBreaks();
-        full.shipment(0, 99999, 99999999);
-        full.shipment(0, 1, 1);
-        t.due("the most that may be", full.combine(0, 1), 100000);
-        t.due("and the most volume", full.told(0, 2), 100000000);
-    }
-
-    private static void refusedCombining() {
-        RateBreaks x = Checks.withRates("R 1 0 100000 5\n");
-        x.shipment(0, 50001, 0);
-        x.shipment(0, 50000, 0);
-        x.shipment(0, 1, 100000000);
+    private static void bookedByDivisorZero() {
+        t.sentence("ArithmeticException likewise");
+        Run x = Run.withRates("R 0 0 9 5\nD 0 0\nD 9 0\nR 1 0 9 5\n");
         x.shipment(0, 1, 1);
-        x.shipment(1, 1, 0);
         x.shipment(0, 1, 0);
-        x.book(5, 1);
-        t.refused("too many grams", IllegalStateException.class, () -> x.combine(0, 1));
-        t.refused("too much volume", IllegalStateException.class, () -> x.combine(3, 2));
-        t.refused("the same", IllegalStateException.class, () -> x.combine(3, 3));
-        t.refused("different zones", IllegalStateException.class, () -> x.combine(3, 4));
-        t.refused("the second is booked", IllegalStateException.class, () -> x.combine(3, 5));
-        t.refused("the first is booked", IllegalStateException.class, () -> x.combine(5, 3));
-        t.refused("both the same that there is not", NoSuchElementException.class, () -> x.combine(6, 6));
-        t.refused("a first that there is not", NoSuchElementException.class, () -> x.combine(-1, 3));
-        t.refused("a second that there is not", NoSuchElementException.class, () -> x.combine(5, 20));
-        t.due("nothing was combined", x.count(2), 6);
-        t.due("grams stay", x.told(0, 1), 50001);
-        t.due("volumes stay", x.told(3, 2), 1);
+        t.refused("divisor 0", Checks.DIVISOR, x, "book", 0, 0);
+        t.refused("divisor 0 and no volume", Checks.DIVISOR, x, "book", 1, 0);
+        t.refused("divisor 0 and no step", Checks.DIVISOR, x, "book", 0, 9);
+        x.book(0, 1);
+        t.refused("booked, and divisor 0", Checks.STATE, x, "book", 0, 0);
+        t.refused("booked, divisor 0 and no step", Checks.STATE, x, "book", 0, 9);
+    }
+
+    private static void noSuchShipmentOrServiceToBook() {
+        t.sentence("NoSuchElementException: a shipment that there is not (any more); IllegalArgumentException: no such service");
+        Run x = Run.withRates("R 0 0 9 5\nD 9 0\n");
+        x.shipments(4, 0, 1, 0);
+        x.combine(0, 1);
+        x.book(3, 0);
+        for (int shipment : new int[] {-1, 1, 4, 19, 20, Integer.MIN_VALUE, Integer.MAX_VALUE}) {
+            for (int service : new int[] {0, 8, 9, 10, -1}) {
+                t.refused("no shipment", Checks.NONE, x, "book", shipment, service);
+            }
+        }
+        for (int service : new int[] {-1, 10, Integer.MIN_VALUE, Integer.MAX_VALUE}) {
+            t.refused("no service", Checks.ARGUMENT, x, "book", 0, service);
+            t.refused("no service, booked", Checks.ARGUMENT, x, "book", 3, service);
+        }
+    }
+
+    private static void everyShipmentBooked() {
+        t.sentence("A shipment is booked by a service");
+        Run x = Run.withRates("R 0 0 9 5\nR 9 0 9 6\n");
+        x.shipments(20, 0, 1, 0);
+        for (int n = 0; n < 20; n++) {
+            t.due("shipment " + n, x.book(n, n % 2 * 9), 5 + n % 2);
+        }
+        t.due("all are booked", x.count(3), 20);
+        t.due("their prices", x.count(4), 110);
+        t.refused("the first again", Checks.STATE, x, "book", 0, 0);
+        t.refused("the last again", Checks.STATE, x, "book", 19, 0);
+    }
+
+    private static void combined() {
+        t.sentence("Two shipments that are not booked, of one zone, become one: .. the first one has the grams and volumes of both: its grams");
+        Run x = Run.withRates("R 1 9 100 5\nD 1 10\n");
+        x.shipments(20, 9, 2, 30);
+        t.due("the last into the first", x.combine(0, 19), 4);
+        t.due("grams", x.told(0, 1), 4);
+        t.due("volume", x.told(0, 2), 60);
+        t.due("zone", x.told(0, 0), 9);
+        t.due("not booked", x.told(0, 3), -1);
+        t.due("weight", x.weight(0, 1), 6);
+        t.due("the first into another", x.combine(18, 0), 6);
+        t.due("its volume", x.told(18, 2), 90);
+        t.due("it can be booked", x.book(18, 1), 5);
+        t.due("the others are as they were", x.told(1, 1), 2);
+        Run none = new Run();
+        none.shipments(2, 0, 1, 0);
+        t.due("the first zone, without volume", none.combine(1, 0), 2);
+        t.due("its volume", none.told(1, 2), 0);
+    }
+
+    private static void theSecondIsGone() {
+        t.sentence("the second one is gone");
+        Run x = Run.withRates("R 1 0 100 5\n");
+        x.shipments(3, 0, 1, 0);
+        x.combine(0, 1);
+        t.due("shipments", x.count(2), 2);
+        for (int what = 0; what <= 5; what++) {
+            t.refused("gone", Checks.NONE, x, "told", 1, what);
+        }
+        for (String name : new String[] {"weight", "price", "parcels", "book", "invoice", "refund"}) {
+            t.refused("gone", Checks.NONE, x, name, 1, 1);
+        }
+        t.refused("gone", Checks.NONE, x, "cheapest", 1);
+        t.refused("gone, as the first", Checks.NONE, x, "combine", 1, 0);
+        t.refused("gone, as the second", Checks.NONE, x, "combine", 0, 1);
+        t.refused("gone, as both", Checks.NONE, x, "combine", 1, 1);
+        t.due("the next number", x.shipment(0, 1, 0), 3);
+    }
+
+    private static void asMuchAsAShipmentMayHave() {
+        t.sentence("or it would have more grams or volume than a shipment may");
+        int[][] gramsVolumes = {{99999, 0, 1, 0}, {50000, 1, 50000, 2}, {1, 99999999, 1, 1}, {1, 100000000, 1, 0}, {99999, 50000000, 1, 50000000}};
+        for (int[] w : gramsVolumes) {
+            Run x = new Run();
+            x.shipment(3, w[0], w[1]);
+            x.shipment(3, w[2], w[3]);
+            t.due("together " + Arrays.toString(w), x.combine(0, 1), w[0] + w[2]);
+            t.due("volume", x.told(0, 2), w[1] + w[3]);
+        }
+        int[][] tooMuch = {{100000, 0, 1, 0}, {50000, 0, 50001, 0}, {1, 100000000, 1, 1}, {1, 50000000, 1, 50000001}, {100000, 100000000, 100000, 100000000}};
+        for (int[] w : tooMuch) {
+            Run x = new Run();
+            x.shipment(3, w[0], w[1]);
+            x.shipment(3, w[2], w[3]);
+            t.refused("too much " + Arrays.toString(w), Checks.STATE, x, "combine", 0, 1);
+            t.refused("too much " + Arrays.toString(w), Checks.STATE, x, "combine", 1, 0);
+        }
+    }
+
+    private static void refusedToCombine() {
+        t.sentence("IllegalStateException: the same, booked, of different zones");
+        Run x = Run.withRates("R 1 0 9 0\n");
+        x.shipments(4, 0, 1, 0);
+        x.shipment(1, 1, 0);
+        x.book(2, 1);
+        x.book(3, 1);
+        t.refused("the same", Checks.STATE, x, "combine", 0, 0);
+        t.refused("the same, booked", Checks.STATE, x, "combine", 2, 2);
+        t.refused("the first is booked", Checks.STATE, x, "combine", 2, 0);
+        t.refused("the second is booked", Checks.STATE, x, "combine", 0, 2);
+        t.refused("both are booked", Checks.STATE, x, "combine", 2, 3);
+        t.refused("different zones", Checks.STATE, x, "combine", 0, 4);
+        t.refused("different zones, the other way", Checks.STATE, x, "combine", 4, 0);
+        t.refused("different zones, booked", Checks.STATE, x, "combine", 4, 2);
+        t.due("two that may", x.combine(1, 0), 2);
+    }
+
+    private static void noSuchShipmentToCombine() {
+        t.sentence("NoSuchElementException: a shipment that there is not (any more)");
+        Run x = Run.withRates("R 1 0 9 0\n");
+        x.shipments(4, 0, 1, 0);
+        x.book(2, 1);
+        x.combine(0, 1);
+        for (int none : new int[] {-1, 1, 4, 19, 20, Integer.MIN_VALUE, Integer.MAX_VALUE}) {
+            t.refused("no first", Checks.NONE, x, "combine", none, 0);
+            t.refused("no second", Checks.NONE, x, "combine", 0, none);
+            t.refused("no first, the second is booked", Checks.NONE, x, "combine", none, 2);
+            t.refused("no second, the first is booked", Checks.NONE, x, "combine", 2, none);
+            t.refused("the same, that there is not", Checks.NONE, x, "combine", none, none);
+        }
     }
 }

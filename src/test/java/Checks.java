@@ -1,22 +1,21 @@
-/** What the tests share: telling a text, comparing answers, and the exit code at the end. */
+/** What the tests share: the sentence that is tested, the answers that are due, and the exit code at the end. */
 final class Checks {
-    interface Call {
-        long answer();
-    }
+    static final String NONE = "NoSuchElementException";
+    static final String ARGUMENT = "IllegalArgumentException";
+    static final String STATE = "IllegalStateException";
+    static final String ROOM = "UnsupportedOperationException";
+    static final String DIVISOR = "ArithmeticException";
 
+    private String sentence = "";
     private int wrong = 0;
 
-    void due(String what, long got, long want) {
-        if (got != want) {
-            complain(what + " answered " + got + ", due is " + want);
-        }
+    /** The document's words that the checks behind this call hold to. */
+    void sentence(String words) {
+        sentence = words;
     }
 
-    void refused(String what, Class<? extends RuntimeException> due, Call call) {
-        String got = outcome(call);
-        if (!got.equals("throws." + due.getSimpleName())) {
-            complain(what + " answered " + got + ", due is throws." + due.getSimpleName());
-        }
+    void due(String what, long got, long want) {
+        same(what, Long.toString(got), Long.toString(want));
     }
 
     void same(String what, String got, String want) {
@@ -25,9 +24,32 @@ final class Checks {
         }
     }
 
+    /** The call throws what is due, and nothing is changed by it. */
+    void refused(String what, String due, Run x, String name, int... n) {
+        Call call = new Call(name, n);
+        Run without = x.again();
+        without.idle(1);
+        same(what + ": " + call, call.outcome(x), "throws." + due);
+        unchanged(what + ": " + call, x, without);
+    }
+
+    /** The text is wrong in the line that begins at the place; the signs are gone, and nothing else is changed. */
+    void wrongText(Run x, String text, int place) {
+        Run without = x.again();
+        without.idle(text.length() + 1);
+        due("read of " + shown(text), x.readText(text), -1 - place);
+        unchanged("read of " + shown(text), x, without);
+    }
+
+    private void unchanged(String what, Run x, Run without) {
+        if (!State.of(x).equals(State.of(without))) {
+            complain(what + " changed something");
+        }
+    }
+
     void complain(String what) {
         wrong++;
-        System.out.println(what);
+        System.out.println(sentence.isEmpty() ? what : "'" + sentence + "': " + what);
     }
 
     int wrong() {
@@ -41,31 +63,11 @@ final class Checks {
         }
     }
 
-    /** The answer, or the very class that the call throws. */
-    static String outcome(Call call) {
-        try {
-            return Long.toString(call.answer());
-        } catch (RuntimeException e) {
-            return "throws." + e.getClass().getSimpleName();
+    static String shown(String text) {
+        StringBuilder all = new StringBuilder();
+        for (char c : text.toCharArray()) {
+            all.append(c >= ' ' && c < 127 ? String.valueOf(c) : "<" + (int) c + ">");
         }
-    }
-
-    static void tell(RateBreaks x, String text) {
-        for (int i = 0; i < text.length(); i++) {
-            x.sign(text.charAt(i));
-        }
-    }
-
-    static int read(RateBreaks x, String text) {
-        tell(x, text);
-        return x.read();
-    }
-
-    static RateBreaks withRates(String text) {
-        RateBreaks x = new RateBreaks();
-        if (read(x, text) < 0) {
-            throw new IllegalStateException("the test's own rates are wrong: " + text);
-        }
-        return x;
+        return all.toString();
     }
 }

@@ -63,8 +63,8 @@ public final class FaceTest {
         }
         for (Class<?> inside : RateBreaks.class.getDeclaredClasses()) {
             for (Method m : inside.getDeclaredMethods()) {
-                if (publicNames.contains(m.getName())) {
-                    t.complain(inside.getSimpleName() + " has a method of the public name " + m.getName());
+                if (Modifier.isPrivate(m.getModifiers()) && publicNames.contains(m.getName())) {
+                    t.complain(inside.getSimpleName() + " has a private method of the public name " + m.getName());
                 }
             }
         }

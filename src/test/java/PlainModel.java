@@ -8,7 +8,7 @@ import java.util.regex.Matcher;
 import java.util.regex.Pattern;
 
 /** The document written a second time, with the library's maps and patterns, to compare answers with. */
-final class PlainModel {
+final class PlainModel implements Face {
     private static final String NUMBER = " (0|[1-9][0-9]{0,8})";
     private static final Pattern LINE = Pattern.compile(
         "R" + NUMBER + NUMBER + NUMBER + NUMBER + "|[DM]" + NUMBER + NUMBER + "|F" + NUMBER + NUMBER + NUMBER);
@@ -36,14 +36,16 @@ final class PlainModel {
     private final Map<Integer, TreeMap<Integer, int[]>> contracts = new HashMap<>();
     private final TreeMap<Integer, int[]> days = new TreeMap<>();
 
-    long sign(int c) {
+    @Override
+    public long sign(int c) {
         argument(c >= 0 && c <= 255);
         room(text.length() < 600);
         text.append((char) c);
         return text.length();
     }
 
-    long read() {
+    @Override
+    public long read() {
         String all = text.toString();
         text.setLength(0);
         Rates fresh = new Rates();
@@ -89,7 +91,8 @@ final class PlainModel {
         }
     }
 
-    long shipment(int zone, int grams, int volume) {
+    @Override
+    public long shipment(int zone, int grams, int volume) {
         argument(zone >= 0 && zone <= 9 && grams >= 1 && grams <= 100000 && volume >= 0 && volume <= 100000000);
         room(items.size() < 20);
         Item item = new Item();
@@ -100,19 +103,22 @@ final class PlainModel {
         return items.size() - 1;
     }
 
-    long weight(int shipment, int service) {
+    @Override
+    public long weight(int shipment, int service) {
         Item item = item(shipment);
         argument(service >= 0 && service <= 9);
         return weightOf(item, service);
     }
 
-    long price(int shipment, int service) {
+    @Override
+    public long price(int shipment, int service) {
         Item item = item(shipment);
         argument(service >= 0 && service <= 9);
         return priceOf(item, service);
     }
 
-    long cheapest(int shipment) {
+    @Override
+    public long cheapest(int shipment) {
         Item item = item(shipment);
         int best = -1;
         for (int service = 9; service >= 0; service--) {
@@ -126,7 +132,8 @@ final class PlainModel {
     }
 
     /** A least parting has all but one of its parcels at a step's full weight or at the lowest that still is its own. */
-    long parcels(int shipment, int service) {
+    @Override
+    public long parcels(int shipment, int service) {
         Item item = item(shipment);
         argument(service >= 0 && service <= 9);
         TreeMap<Integer, Integer> lane = rates.steps.getOrDefault(service + "/" + item.zone, new TreeMap<>());
@@ -163,7 +170,8 @@ final class PlainModel {
         return sum;
     }
 
-    long contract(int service, int from, int up, int down) {
+    @Override
+    public long contract(int service, int from, int up, int down) {
         argument(service >= 0 && service <= 9 && from >= 0 && from <= 100);
         argument(down >= 1 && down <= 1000 && up >= 0 && up <= down);
         TreeMap<Integer, int[]> own = contracts.computeIfAbsent(service, k -> new TreeMap<>());
@@ -172,7 +180,8 @@ final class PlainModel {
         return own.size();
     }
 
-    long book(int shipment, int service) {
+    @Override
+    public long book(int shipment, int service) {
         Item item = item(shipment);
         argument(service >= 0 && service <= 9);
         state(item.service == null);
@@ -183,7 +192,8 @@ final class PlainModel {
         return price;
     }
 
-    long combine(int shipment, int other) {
+    @Override
+    public long combine(int shipment, int other) {
         Item first = item(shipment);
         Item second = item(other);
         state(first != second && first.service == null && second.service == null && first.zone == second.zone);
@@ -194,7 +204,8 @@ final class PlainModel {
         return first.grams;
     }
 
-    long invoice(int shipment, int cents) {
+    @Override
+    public long invoice(int shipment, int cents) {
         Item item = item(shipment);
         argument(cents >= 0 && cents <= 10000000);
         state(item.service != null && item.left == null);
@@ -202,7 +213,8 @@ final class PlainModel {
         return cents - item.price;
     }
 
-    long refund(int shipment, int cents) {
+    @Override
+    public long refund(int shipment, int cents) {
         Item item = item(shipment);
         argument(cents >= 1 && cents <= 10000000);
         state(item.left != null && item.left >= cents);
@@ -210,7 +222,8 @@ final class PlainModel {
         return item.left;
     }
 
-    long differ(int i) {
+    @Override
+    public long differ(int i) {
         argument(i >= 0);
         List<Integer> all = new ArrayList<>();
         for (Item item : items) {
@@ -221,27 +234,31 @@ final class PlainModel {
         return i < all.size() ? all.get(i) : -1;
     }
 
-    long currency(int day, int up, int down) {
+    @Override
+    public long currency(int day, int up, int down) {
         argument(day >= 0 && day <= 10000 && up >= 1 && up <= 100000 && down >= 1 && down <= 100000);
         room(days.containsKey(day) || days.size() < 8);
         days.put(day, new int[] {up, down});
         return days.size();
     }
 
-    long converted(int cents, int day) {
+    @Override
+    public long converted(int cents, int day) {
         argument(cents >= 0 && cents <= 10000000 && day >= 0 && day <= 10000);
         Map.Entry<Integer, int[]> by = days.floorEntry(day);
         return by == null ? -1 : (long) cents * by.getValue()[0] / by.getValue()[1];
     }
 
-    long told(int shipment, int what) {
+    @Override
+    public long told(int shipment, int what) {
         Item item = item(shipment);
         argument(what >= 0 && what <= 5);
         Object[] all = {item.zone, item.grams, item.volume, item.service, item.price, item.left};
         return all[what] == null ? -1 : ((Number) all[what]).longValue();
     }
 
-    long count(int what) {
+    @Override
+    public long count(int what) {
         long[] sums = {text.length(), rates.lines, 0, 0, 0, 0};
         for (Item item : items) {
             if (item != null) {
