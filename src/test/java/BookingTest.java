@@ -229,7 +229,7 @@ public final class BookingTest {
     }
 
     private static void combined() {
-        t.sentence("Two shipments that are not booked, of one zone, become one: .. the first one has the grams and volumes of both: its grams");
+        t.sentence("become one: .. the first one has the grams and volumes of both: its grams");
         Run x = Run.withRates("R 1 9 100 5\nD 1 10\n");
         x.shipments(20, 9, 2, 30);
         t.due("the last into the first", x.combine(0, 19), 4);
@@ -269,7 +269,9 @@ public final class BookingTest {
 
     private static void asMuchAsAShipmentMayHave() {
         t.sentence("or it would have more grams or volume than a shipment may");
-        int[][] gramsVolumes = {{99999, 0, 1, 0}, {50000, 1, 50000, 2}, {1, 99999999, 1, 1}, {1, 100000000, 1, 0}, {99999, 50000000, 1, 50000000}};
+        int[][] gramsVolumes = {
+            {99999, 0, 1, 0}, {50000, 1, 50000, 2}, {1, 99999999, 1, 1}, {1, 100000000, 1, 0}, {99999, 50000000, 1, 50000000},
+        };
         for (int[] w : gramsVolumes) {
             Run x = new Run();
             x.shipment(3, w[0], w[1]);
@@ -277,7 +279,10 @@ public final class BookingTest {
             t.due("together " + Arrays.toString(w), x.combine(0, 1), w[0] + w[2]);
             t.due("volume", x.told(0, 2), w[1] + w[3]);
         }
-        int[][] tooMuch = {{100000, 0, 1, 0}, {50000, 0, 50001, 0}, {1, 100000000, 1, 1}, {1, 50000000, 1, 50000001}, {100000, 100000000, 100000, 100000000}};
+        int[][] tooMuch = {
+            {100000, 0, 1, 0}, {50000, 0, 50001, 0}, {1, 100000000, 1, 1}, {1, 50000000, 1, 50000001},
+            {100000, 100000000, 100000, 100000000},
+        };
         for (int[] w : tooMuch) {
             Run x = new Run();
             x.shipment(3, w[0], w[1]);

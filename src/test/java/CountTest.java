@@ -17,7 +17,7 @@ public final class CountTest {
     }
 
     private static void whatIsToldOfAShipment() {
-        t.sentence("Of a shipment 0 its zone, 1 grams, 2 volume, 3 the service .. (-1 not), 4 the price at which (-1), 5 what is left of its invoice (-1 not invoiced)");
+        t.sentence("Of a shipment 0 its zone, 1 grams, 2 volume, 3 the service .., 4 the price .., 5 what is left of its invoice");
         Run x = Run.withRates("R 9 8 9 100\n");
         x.shipment(8, 5, 4);
         told(x, 0, 8, 5, 4, -1, -1, -1);

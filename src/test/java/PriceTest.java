@@ -201,7 +201,10 @@ public final class PriceTest {
         Run x = Run.withRates("R 0 0 9 100\nR 1 0 9 100\nR 2 0 9 100\nM 2 1001\nR 3 0 9 100\nF 3 1 2\nR 4 0 9 0\n");
         x.shipment(0, 1, 0);
         t.due("without one", x.price(0, 0), 100);
-        int[][] upDownCents = {{1, 1, 100}, {0, 1, 0}, {0, 1000, 0}, {1, 2, 50}, {1, 3, 34}, {2, 3, 67}, {1, 1000, 1}, {999, 1000, 100}, {1000, 1000, 100}};
+        int[][] upDownCents = {
+            {1, 1, 100}, {0, 1, 0}, {0, 1000, 0}, {1, 2, 50}, {1, 3, 34}, {2, 3, 67}, {1, 1000, 1}, {999, 1000, 100},
+            {1000, 1000, 100},
+        };
         for (int[] w : upDownCents) {
             x.contract(0, 0, w[0], w[1]);
             t.due("by the contract " + Arrays.toString(w), x.price(0, 0), w[2]);

@@ -39,7 +39,6 @@ public final class TextTest {
         t.refused("no shipment", Checks.NONE, x, "told", 0, 0);
         t.due("differ(0)", x.differ(0), -1);
         t.due("no currency", x.converted(1, 10000), -1);
-        t.due("no text to read", x.read(), 0);
         t.due("the first shipment", x.shipment(0, 1, 0), 0);
         for (int service = 0; service <= 9; service++) {
             t.due("no price", x.price(0, service), -1);
@@ -49,6 +48,7 @@ public final class TextTest {
         }
         t.due("no cheapest", x.cheapest(0), -1);
         t.due("no day with a currency", x.currency(0, 1, 1), 1);
+        t.due("no text to read", x.read(), 0);
         Run other = new Run();
         t.due("another object is new too", other.count(2), 0);
         t.due("and has numbers of its own", other.shipment(0, 1, 0), 0);
@@ -164,7 +164,8 @@ public final class TextTest {
     private static void digits() {
         t.sentence("a number is one or more digits");
         for (int place = 1; place <= 4; place++) {
-            for (String number : new String[] {"", "-0", "-1", "+1", "/", ":", "a", "\u00b2", "\u00b9", "0x1", "1a", "1/", "1:", "1.", "1 "}) {
+            for (String number : new String[] {
+                "", "-0", "-1", "+1", "/", ":", "a", "\u00b2", "\u00b9", "0x1", "1a", "1/", "1:", "1.", "1 "}) {
                 wrongNumber(place, number);
             }
         }
