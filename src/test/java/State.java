@@ -1,7 +1,7 @@
 import java.util.ArrayList;
 import java.util.List;
 
-/** All that an object's answers can show of its state, asked of new objects after the same calls. */
+/** What an object's answers show of its state, by a long row of questions to new objects after the same calls. */
 final class State {
     private static final List<Call> QUESTIONS = questions();
     private static final List<List<Call>> DEEDS = deeds();
