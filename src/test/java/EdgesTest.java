@@ -3,8 +3,8 @@ import java.util.List;
 
 /**
  * The refusals and their order in "Terms", for every call that takes numbers with every meeting of edges: each number
- * at the ends of its range and just outside, on a new object, on one with shipments of every kind, and on a full one. The answer is
- * PlainModel's; a refused call changes nothing.
+ * at the ends of its range and just outside, on a new object, on one with shipments of every kind, and on a full one.
+ * The answer is PlainModel's; a refused call changes nothing.
  */
 public final class EdgesTest {
     private static final Checks t = new Checks();
