@@ -84,6 +84,11 @@ public final class FaceTest {
             exceptions[i] = m.getExceptionTypes()[i].getSimpleName();
         }
         String type = m.getReturnType().getSimpleName();
+        for (Class<?> parameter : m.getParameterTypes()) {
+            if (parameter != int.class) {
+                return "with another parameter than int: " + m;
+            }
+        }
         String shown = face(type, m.getName(), m.getParameterCount(), exceptions);
         return m.getModifiers() == Modifier.PUBLIC ? shown : "not just " + shown;
     }
